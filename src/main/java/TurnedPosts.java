@@ -59,8 +59,8 @@ public final class TurnedPosts {
     private final Posts posts = new Posts();
     private final Course course = new Course();
     private final Trail trail = new Trail();
-    private final Ends firstEnds = new Ends();
-    private final Ends secondEnds = new Ends();
+    private final AllWays firstWays = new AllWays();
+    private final AllWays secondWays = new AllWays();
     private final Fitting fitting = new Fitting();
     private final int[] codes = new int[MOST_PUT_BY_PERIOD + 1];
 
@@ -105,15 +105,17 @@ public final class TurnedPosts {
             return NONE;
         }
         told.keep(sort, number, reader);
-        forgetWhatFollows();
+        forgetWhatFollows(sort == LAND);
         return number;
     }
 
     /** What was worked out of the texts holds no longer when they change. */
-    private void forgetWhatFollows() {
-        firstEnds.made = false;
-        secondEnds.made = false;
+    private void forgetWhatFollows(boolean ofLands) {
         fitting.made = false;
+        if (ofLands) {
+            firstWays.made = false;
+            secondWays.made = false;
+        }
     }
 
     public int fault(int what) {
@@ -138,7 +140,7 @@ public final class TurnedPosts {
             return false;
         }
         told.takeAll(images[k]);
-        forgetWhatFollows();
+        forgetWhatFollows(true);
         return true;
     }
 
@@ -328,10 +330,10 @@ public final class TurnedPosts {
     // ---- all ways to set the posts ----
 
     /** The table of a LAND that is there. */
-    private Ends endsIn(int land, Land of) {
-        Ends ends = land == 0 ? firstEnds : secondEnds;
-        ends.make(of);
-        return ends;
+    private AllWays waysIn(int land, Land of) {
+        AllWays all = land == 0 ? firstWays : secondWays;
+        all.make(of);
+        return all;
     }
 
     public int set(int land, int crossing, int inn, int what) {
@@ -339,12 +341,12 @@ public final class TurnedPosts {
         if (of == null || !of.has(crossing) || !of.isInn(inn)) {
             return NONE;
         }
-        Ends ends = endsIn(land, of);
-        int way = ends.nearestWay(crossing, inn);
+        AllWays all = waysIn(land, of);
+        int way = all.nearestWay(crossing, inn);
         if (way == NONE) {
             return NONE;
         }
-        int changed = ends.unlike(way, ends.wayTold());
+        int changed = all.unlike(way, all.wayTold());
         if (what == 0) {
             return Integer.bitCount(changed);
         }
@@ -355,7 +357,7 @@ public final class TurnedPosts {
         if (!of.has(c)) {
             return NONE;
         }
-        return of.waysOut(c) > 0 ? ends.road(way, c) : of.post[c];
+        return of.waysOut(c) > 0 ? all.road(way, c) : of.post[c];
     }
 
     public int lot(int land, int crossing, int inn, boolean under) {
@@ -363,14 +365,14 @@ public final class TurnedPosts {
         if (of == null || !of.has(crossing) || !of.isInn(inn)) {
             return NONE;
         }
-        Ends ends = endsIn(land, of);
+        AllWays all = waysIn(land, of);
         int come = 0;
-        for (int way = 0; way < ends.ways; way++) {
-            if (ends.where(way, crossing) == inn) {
+        for (int way = 0; way < all.ways; way++) {
+            if (all.where(way, crossing) == inn) {
                 come++;
             }
         }
-        return inLeastTerms(come, ends.ways, under);
+        return inLeastTerms(come, all.ways, under);
     }
 
     public int mean(int land, int crossing, boolean under) {
@@ -378,15 +380,15 @@ public final class TurnedPosts {
         if (of == null || !of.has(crossing)) {
             return NONE;
         }
-        Ends ends = endsIn(land, of);
+        AllWays all = waysIn(land, of);
         int steps = 0;
-        for (int way = 0; way < ends.ways; way++) {
-            if (!of.isInn(ends.where(way, crossing))) {
+        for (int way = 0; way < all.ways; way++) {
+            if (!of.isInn(all.where(way, crossing))) {
                 return NONE;
             }
-            steps += ends.steps(way, crossing);
+            steps += all.steps(way, crossing);
         }
-        return inLeastTerms(steps, ends.ways, under);
+        return inLeastTerms(steps, all.ways, under);
     }
 
     private static int inLeastTerms(int over, int under, boolean wantsUnder) {
@@ -406,8 +408,8 @@ public final class TurnedPosts {
         if (of == null) {
             return NONE;
         }
-        Ends ends = land == 0 ? firstEnds : secondEnds;
-        return ends.treesOf(of);
+        AllWays all = land == 0 ? firstWays : secondWays;
+        return all.treesOf(of);
     }
 
     public int longest(int land, int crossing, boolean shortest, boolean which) {
@@ -415,18 +417,18 @@ public final class TurnedPosts {
         if (of == null || !of.has(crossing)) {
             return NONE;
         }
-        Ends ends = endsIn(land, of);
+        AllWays all = waysIn(land, of);
         int best = NONE;
         int bestWay = NONE;
-        for (int way = 0; way < ends.ways; way++) {
-            int steps = ends.steps(way, crossing);
+        for (int way = 0; way < all.ways; way++) {
+            int steps = all.steps(way, crossing);
             boolean better = best == NONE || (shortest ? steps < best : steps > best);
-            if (better && of.isInn(ends.where(way, crossing))) {
+            if (better && of.isInn(all.where(way, crossing))) {
                 best = steps;
                 bestWay = way;
             }
         }
-        return which && bestWay != NONE ? ends.number(bestWay) : best;
+        return which && bestWay != NONE ? all.number(bestWay) : best;
     }
 
     public int back(int land, int crossing) {
@@ -434,11 +436,11 @@ public final class TurnedPosts {
         if (of == null || !of.has(crossing)) {
             return NONE;
         }
-        Ends ends = endsIn(land, of);
-        int asTold = ends.wayTold();
+        AllWays all = waysIn(land, of);
+        int asTold = all.wayTold();
         int back = 0;
-        for (int way = 0; way < ends.ways; way++) {
-            if (ends.wayAfter(way, crossing) == asTold) {
+        for (int way = 0; way < all.ways; way++) {
+            if (all.wayAfter(way, crossing) == asTold) {
                 back++;
             }
         }
@@ -450,35 +452,35 @@ public final class TurnedPosts {
         if (of == null || !of.has(crossing) || n < 0 || n > MOST_TURNS) {
             return NO_GAME;
         }
-        Ends ends = endsIn(land, of);
-        int way = ends.wayTold();
-        int worth = worth(ends, way, crossing, n, true);
+        AllWays all = waysIn(land, of);
+        int way = all.wayTold();
+        int worth = worth(all, way, crossing, n, true);
         if (!first) {
             return worth;
         }
-        return n == 0 ? NONE : bestTurn(ends, way, crossing, n, worth);
+        return n == 0 ? NONE : bestTurn(all, way, crossing, n, worth);
     }
 
     /** The STEPS that a GAME comes to, some turns being left, the next one of him who wants fewest or of the other. */
-    private static int worth(Ends ends, int way, int crossing, int left, boolean fewest) {
+    private static int worth(AllWays all, int way, int crossing, int left, boolean fewest) {
         if (left <= 0 || left > MOST_TURNS) {
-            return ends.stepsOrNever(way, crossing);
+            return all.stepsOrNever(way, crossing);
         }
         int best = NONE;
         for (int turn = 0; turn <= NOTHING_TURNED; turn++) {
-            int then = turn == NOTHING_TURNED ? way : ends.turned(way, turn);
+            int then = turn == NOTHING_TURNED ? way : all.turned(way, turn);
             if (then != NONE) {
-                int worth = worth(ends, then, crossing, left - 1, !fewest);
+                int worth = worth(all, then, crossing, left - 1, !fewest);
                 best = best == NONE || (fewest ? worth < best : worth > best) ? worth : best;
             }
         }
         return best;
     }
 
-    private static int bestTurn(Ends ends, int way, int crossing, int n, int best) {
+    private static int bestTurn(AllWays all, int way, int crossing, int n, int best) {
         for (int turn = 0; turn < NOTHING_TURNED; turn++) {
-            int then = ends.turned(way, turn);
-            if (then != NONE && worth(ends, then, crossing, n - 1, false) == best) {
+            int then = all.turned(way, turn);
+            if (then != NONE && worth(all, then, crossing, n - 1, false) == best) {
                 return turn;
             }
         }
@@ -495,7 +497,7 @@ public final class TurnedPosts {
             return false;
         }
         if (!fitting.made || fitting.land != land || fitting.log != log) {
-            fitting.find(endsIn(land, of), by);
+            fitting.find(waysIn(land, of), by);
             fitting.land = land;
             fitting.log = log;
             fitting.made = true;
@@ -508,18 +510,18 @@ public final class TurnedPosts {
         if (!fit(land, log) || of == null || what < 0) {
             return NO_SUCH;
         }
-        Ends ends = endsIn(land, of);
+        AllWays all = waysIn(land, of);
         if (what == 0) {
             return fitting.found;
         }
         if (what == 1) {
-            return fitting.ask(ends);
+            return fitting.ask(all);
         }
         if (what < 2 + MOST_CROSSINGS) {
-            return fitting.sure(ends, what - 2);
+            return fitting.sure(all, what - 2);
         }
         int k = what - 10;
-        return k >= 0 && k < fitting.found ? ends.number(fitting.way(k)) : NO_SUCH;
+        return k >= 0 && k < fitting.found ? all.number(fitting.way(k)) : NO_SUCH;
     }
 
     public int odds(int land, int log, int crossing, int road, boolean under) {
@@ -531,7 +533,7 @@ public final class TurnedPosts {
         if (fitting.found == 0) {
             return NONE;
         }
-        int pointing = fitting.pointing(endsIn(land, of), crossing, road);
+        int pointing = fitting.pointing(waysIn(land, of), crossing, road);
         return inLeastTerms(pointing, fitting.found, under);
     }
 
@@ -1458,11 +1460,13 @@ public final class TurnedPosts {
      * ROADS. Ways are numbered as their rows of ROADS rise. A place in the table is a way and a CROSSING; what
      * stands there is the place to which the WALK leads, and the STEPS above it.
      */
-    private static final class Ends {
+    private static final class AllWays {
         private static final int PLACE_BITS = 17;
         private static final int PLACE = (1 << PLACE_BITS) - 1;
         private static final int STEP = 1 << PLACE_BITS;
         private static final int MOST_PLACES = 1 << PLACE_BITS;
+        /** The highest bit of MOST_STEPS, which one STEP stands for. */
+        private static final int TOP_BIT = 256;
         private static final int CROSSING_BITS = 3;
         private static final int CROSSING = (1 << CROSSING_BITS) - 1;
 
@@ -1484,17 +1488,15 @@ public final class TurnedPosts {
             countWays(of);
             grow();
             stepOnce();
-            // A row of STEPS doubled again and again is much cheaper than every WALK gone by itself.
-            int done = 1;
-            for (int bit = 128; bit > 0; bit >>= 1) {
+            // Much cheaper than every WALK gone by itself: what n STEPS lead to gives what 2 n and 2 n + 1 lead to,
+            // so the number of STEPS grows bit by bit.
+            for (int bit = TOP_BIT >> 1; bit > 0; bit >>= 1) {
                 doubleAll();
-                done *= 2;
                 if ((MOST_STEPS & bit) != 0) {
                     oneMore();
-                    done++;
                 }
             }
-            made = done == MOST_STEPS;
+            made = true;
         }
 
         private void countWays(Land of) {
@@ -1701,13 +1703,13 @@ public final class TurnedPosts {
         private final int[] places = new int[MOST_CROSSINGS];
 
         /** Holds each way that FITS, with the way that its POSTS stand behind the FACTS above it. */
-        void find(Ends ends, Log by) {
-            grow(ends.ways);
+        void find(AllWays all, Log by) {
+            grow(all.ways);
             found = 0;
             least = 0;
             most = 0;
-            for (int way = 0; way < ends.ways && way <= WAY; way++) {
-                tryWay(ends, by, way);
+            for (int way = 0; way < all.ways && way <= WAY; way++) {
+                tryWay(all, by, way);
             }
         }
 
@@ -1722,16 +1724,16 @@ public final class TurnedPosts {
             rows = new int[length];
         }
 
-        private void tryWay(Ends ends, Log by, int way) {
+        private void tryWay(AllWays all, Log by, int way) {
             int then = way;
             int steps = 0;
             for (int k = 0; k < by.facts && k < MOST_FACTS; k++) {
                 int c = by.crossing[k];
-                if (!ends.land.has(c) || !isSo(ends, then, c, by.inn[k])) {
+                if (!all.land.has(c) || !isSo(all, then, c, by.inn[k])) {
                     return;
                 }
-                steps += ends.steps(then, c);
-                then = ends.wayAfter(then, c);
+                steps += all.steps(then, c);
+                then = all.wayAfter(then, c);
             }
             if (found < rows.length) {
                 least = found == 0 ? steps : Math.min(least, steps);
@@ -1741,39 +1743,39 @@ public final class TurnedPosts {
             }
         }
 
-        private static boolean isSo(Ends ends, int way, int c, int inn) {
-            int where = ends.where(way, c);
-            return ends.land.isInn(where) ? where == inn : inn == NONE;
+        private static boolean isSo(AllWays all, int way, int c, int inn) {
+            int where = all.where(way, c);
+            return all.land.isInn(where) ? where == inn : inn == NONE;
         }
 
         int way(int k) {
             return k >= 0 && k < rows.length ? rows[k] & WAY : 0;
         }
 
-        int pointing(Ends ends, int c, int r) {
+        int pointing(AllWays all, int c, int r) {
             int pointing = 0;
             for (int k = 0; k < found; k++) {
-                if (ends.road(way(k), c) == r) {
+                if (all.road(way(k), c) == r) {
                     pointing++;
                 }
             }
             return pointing;
         }
 
-        int sure(Ends ends, int c) {
-            if (found == 0 || !ends.land.has(c)) {
+        int sure(AllWays all, int c) {
+            if (found == 0 || !all.land.has(c)) {
                 return NONE;
             }
-            int road = ends.road(way(0), c);
-            return pointing(ends, c, road) == found ? road : NONE;
+            int road = all.road(way(0), c);
+            return pointing(all, c, road) == found ? road : NONE;
         }
 
-        int ask(Ends ends) {
+        int ask(AllWays all) {
             int best = NONE;
             int bestMost = 0;
-            for (int c = 0; c < ends.land.crossings && found > 0; c++) {
-                if (!ends.land.isInn(c)) {
-                    int together = mostTogether(ends, c);
+            for (int c = 0; c < all.land.crossings && found > 0; c++) {
+                if (!all.land.isInn(c)) {
+                    int together = mostTogether(all, c);
                     if (best == NONE || together < bestMost) {
                         best = c;
                         bestMost = together;
@@ -1784,13 +1786,13 @@ public final class TurnedPosts {
         }
 
         /** The greatest number of ways that FIT by which one more, put there, is at the same place in the end. */
-        private int mostTogether(Ends ends, int c) {
+        private int mostTogether(AllWays all, int c) {
             for (int i = 0; i < MOST_CROSSINGS; i++) {
                 places[i] = 0;
             }
             int together = 0;
             for (int k = 0; k < found && k < rows.length; k++) {
-                int where = ends.where(rows[k] >> WAY_BITS, c);
+                int where = all.where(rows[k] >> WAY_BITS, c);
                 if (where < MOST_CROSSINGS) {
                     places[where]++;
                     together = Math.max(together, places[where]);

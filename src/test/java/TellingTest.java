@@ -122,6 +122,13 @@ public final class TellingTest {
         fault(0, "cross 0", 1, 7);
         fault(0, "cross 0 cross;", 1, 8);
         fault(0, "crossx;", 1, 0);
+        fault(0, "crossz;", 1, 0);
+        fault(0, "across;", 1, 0);
+        fault(0, "cross 0`;", 1, 7);
+        fault(0, "cross 0{;", 1, 7);
+        fault(0, "cross 0/;", 1, 7);
+        fault(0, "cross 0:;", 1, 7);
+        fault(0, "cross 0 9 9 12 6x;", 1, 16);
         fault(0, "cros 0;", 1, 0);
         fault(0, " Cross;", 1, 1);
         fault(0, ";", 1, 0);

@@ -108,6 +108,17 @@ public final class WalksTest {
         x = Check.withLand("cross 6 6 6 1;cross 6 6 2;cross 6 6 3;cross 6 6 4;cross 6 6 5;cross 6 6 6;cross;inn 6;");
         Check.due("period 972", x.period(0, 0, false), 972);
         Check.due("ahead", x.period(0, 0, true), 0);
+        // as they were first behind the 999th, behind the 1000th, behind the 1001st (as behind the 39th)
+        x = Check.withLand("cross 1 6 4;cross 6 2 4 0;cross 3 0 3;cross 6 4 4;cross 6 5 6 1;cross 6 6 6;cross;inn 6;"
+            + "post 1 2;post 2 1;post 5 1;");
+        Check.due("period 999", x.period(0, 0, false), 999);
+        x = Check.withLand("cross 1 0 5;cross 6 6 6 2;cross 6 6 3 6;cross 6 6 4;cross 6 2 5 6;cross 4 6 3;cross;inn 6;"
+            + "post 0 2;post 1 1;post 2 3;post 3 2;post 4 3;post 5 1;");
+        Check.due("period 1000", x.period(0, 0, false), NONE);
+        x = Check.withLand("cross 6 6 3;cross 6 6 6 2;cross 1 3 6;cross 6 0 4 6;cross 5 6 1 5;cross 6 6 6 6;cross;inn 6;"
+            + "post 0 1;post 1 3;post 3 3;post 4 2;");
+        Check.due("behind 1001", x.period(0, 0, false), NONE);
+        Check.due("behind 1001", x.period(0, 0, true), NONE);
     }
 
     private static void cover() {
@@ -143,6 +154,10 @@ public final class WalksTest {
         x = Check.withLand("cross 0 0 0 1;cross 0 0 0 2;cross 0 0 0 3;cross 0 0 0 4;cross 0 0 0 5;cross;inn 5;");
         Check.due("too far", x.walk(0, 0, 0), 499);
         Check.due("no round", x.cover(0, 0, 3), NONE);
+        x = Check.withLand("cross 4 3;cross 2 2 1 1;cross 3 3 1 5;cross 1 2 0;cross 5 5 3;cross 4 2 4 6;cross 6 0 5;");
+        Check.due("round of 999", x.cover(0, 0, 3), 999);
+        x = Check.withLand("cross 0 5 4 0;cross 2 3 6 0;cross 5;cross 2 4 6 1;cross 4 5 3 4;cross 0 4;cross 6 5 6 0;");
+        Check.due("round of 1000", x.cover(0, 0, 3), NONE);
     }
 
     private static void share() {
