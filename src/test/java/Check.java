@@ -1,9 +1,17 @@
+import java.util.function.IntUnaryOperator;
+
 /** Compares answers with those that are due, and tells texts to the tape. */
 final class Check {
     private static int wrong = 0;
     private static int asked = 0;
+    private static String sentence = "";
 
     private Check() {
+    }
+
+    /** The sentence of the document that the answers from here on are asked for. */
+    static void sentence(String words) {
+        sentence = words;
     }
 
     static void due(String what, long got, long want) {
@@ -11,13 +19,32 @@ final class Check {
         if (got != want) {
             wrong++;
             if (wrong <= 50) {
-                System.out.println(what + " answered " + got + ", due is " + want);
+                System.out.println(what + " answered " + got + ", due is " + want
+                    + (sentence.isEmpty() ? "" : " (\"" + sentence + "\")"));
             }
         }
     }
 
     static void due(String what, boolean got, boolean want) {
         due(what, got ? 1 : 0, want ? 1 : 0);
+    }
+
+    /** All of a row of answers, from a number on. */
+    static void dues(String what, IntUnaryOperator call, int from, int... wants) {
+        for (int i = 0; i < wants.length; i++) {
+            due(what + " " + (from + i), call.applyAsInt(from + i), wants[i]);
+        }
+    }
+
+    /** A call answers from low to high, and refuses next to these and far off. */
+    static void bounds(String what, IntUnaryOperator call, int low, int high, int refused) {
+        for (int i : new int[] {low - 1, high + 1, Integer.MIN_VALUE, Integer.MAX_VALUE}) {
+            due(what + " " + i, call.applyAsInt(i), refused);
+        }
+        for (int i : new int[] {low, high}) {
+            int answer = call.applyAsInt(i);
+            due(what + " " + i + " answers (" + answer + ")", answer != refused, true);
+        }
     }
 
     /** Puts a text on the tape (which is empty), each character as a byte. */
@@ -58,6 +85,32 @@ final class Check {
         TurnedPosts x = new TurnedPosts();
         due("land of " + text, land(x, text), 0);
         return x;
+    }
+
+    static TurnedPosts withDay(String land, String day) {
+        TurnedPosts x = withLand(land);
+        due("day " + day, day(x, day), 0);
+        return x;
+    }
+
+    static TurnedPosts withLog(String land, String log) {
+        TurnedPosts x = withLand(land);
+        due("log " + log, log(x, log), 0);
+        return x;
+    }
+
+    /** A text told to a new object: its FAULT and the place of it; 0 and NONE, if there is none. */
+    static void fault(int sort, String text, int fault, int place) {
+        TurnedPosts x = new TurnedPosts();
+        due("text " + text, text(x, sort, TurnedPosts.NONE, text), fault == 0 ? 0 : TurnedPosts.NONE);
+        due("fault of " + text, x.fault(0), fault);
+        due("place of " + text, x.fault(1), place);
+        due("count behind " + text, x.count(sort), fault == 0 ? 1 : 0);
+    }
+
+    /** A text told to a new object that has no FAULT. */
+    static void whole(int sort, String text) {
+        fault(sort, text, 0, TurnedPosts.NONE);
     }
 
     static void done(String test) {

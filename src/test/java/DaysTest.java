@@ -16,12 +16,6 @@ public final class DaysTest {
         Check.done("DaysTest");
     }
 
-    private static TurnedPosts withDay(String land, String day) {
-        TurnedPosts x = Check.withLand(land);
-        Check.due("day " + day, Check.day(x, day), 0);
-        return x;
-    }
-
     private static void state(TurnedPosts x, int n, int[] numbers, int[] posts, int[] walkers, int[] shut) {
         for (int what = 0; what < 4; what++) {
             Check.due("state " + n + " " + what, x.state(0, 0, n, what), numbers[what]);
@@ -35,7 +29,7 @@ public final class DaysTest {
 
     private static void goAndRun() {
         // posts 0 1: the first goes by road 1 to the inn; run of the second by road 0 to 1, by 0 to 0, by 1 to the inn
-        TurnedPosts x = withDay(LAND, "go 0;run 0;turn 0;add 1;go 1;run 2;go 2;go 0;");
+        TurnedPosts x = Check.withDay(LAND, "go 0;run 0;turn 0;add 1;go 1;run 2;go 2;go 0;");
         Check.due("stop", x.stop(0, 0), 6);
         int[] no = {0, 0, 0, 0};
         state(x, 0, new int[] {0, 0, 3, 0}, new int[] {0, 1, 0, 0}, new int[] {2, 0, 0, 1}, no);
@@ -52,7 +46,7 @@ public final class DaysTest {
 
     private static void shutAndOpen() {
         // a road that is shut is passed over; the one that is left is turned to again; none: can't
-        TurnedPosts x = withDay("cross 0 1 2;cross;cross;inn 1;walkers 0 9;",
+        TurnedPosts x = Check.withDay("cross 0 1 2;cross;cross;inn 1;walkers 0 9;",
             "shut 0 1;go 0;shut 0 2;go 0;turn 0;shut 0 0;open 0 1;go 0;shut 0 1;run 0;add 0;go 0;");
         Check.due("stop", x.stop(0, 0), 11);
         Check.due("passes 1", x.state(0, 0, 2, 10), 2);
@@ -70,13 +64,13 @@ public final class DaysTest {
         Check.due("never", x.state(0, 0, 10, 3), 1);
         Check.due("added", x.state(0, 0, 11, 20), 8);
         // roads of an inn can be shut, its post never turns
-        x = withDay("cross 0;inn 0;", "shut 0 0;open 0 0;turn 0;");
+        x = Check.withDay("cross 0;inn 0;", "shut 0 0;open 0 0;turn 0;");
         Check.due("inn's road", x.state(0, 0, 1, 30), 1);
         Check.due("stop at inn's post", x.stop(0, 0), 2);
     }
 
     private static void stopsAt(int stop, String land, String day) {
-        Check.due("stop of " + day, withDay(land, day).stop(0, 0), stop);
+        Check.due("stop of " + day, Check.withDay(land, day).stop(0, 0), stop);
     }
 
     private static void cannotBe() {
@@ -108,7 +102,7 @@ public final class DaysTest {
 
     private static void neverByRun() {
         // one who runs 499 steps, one who can't step, one who stands at an inn
-        TurnedPosts x = withDay("cross 0;cross;cross;inn 2;walkers 0 1;walkers 1 1;walkers 2 1;",
+        TurnedPosts x = Check.withDay("cross 0;cross;cross;inn 2;walkers 0 1;walkers 1 1;walkers 2 1;",
             "run 0;run 1;run 2;run 0;go 0;");
         Check.due("499", x.state(0, 0, 1, 0), 499);
         Check.due("never", x.state(0, 0, 1, 3), 1);
@@ -121,7 +115,7 @@ public final class DaysTest {
     }
 
     private static void wrongInputs() {
-        TurnedPosts x = withDay(LAND, "go 0;");
+        TurnedPosts x = Check.withDay(LAND, "go 0;");
         for (int i : new int[] {-1, 1, 2, Integer.MAX_VALUE, Integer.MIN_VALUE}) {
             Check.due("stop land " + i, x.stop(i, 0), NONE);
             Check.due("stop day " + i, x.stop(0, i), NONE);
@@ -140,7 +134,7 @@ public final class DaysTest {
     }
 
     private static void after() {
-        TurnedPosts x = withDay(LAND, "add 2;run 2;turn 0;run 0;go 0;add 3;add 3;shut 1 0;go 1;");
+        TurnedPosts x = Check.withDay(LAND, "add 2;run 2;turn 0;run 0;go 0;add 3;add 3;shut 1 0;go 1;");
         // turn: post 0 is 1; run 0: by 0 to 1, by 0 to 0, by 1 to the inn; go 0: by 0 to 1; go 1: by 1 to the inn
         Check.due("stop", x.stop(0, 0), 9);
         Check.due("first", x.after(0, 0, 0), 3);
@@ -148,10 +142,10 @@ public final class DaysTest {
         Check.due("moved", x.after(0, 0, 2), 3);
         Check.due("crowd", x.after(0, 0, 3), 3);
         Check.due("unlike", x.after(0, 0, 4), 0);
-        x = withDay(LAND, "go 0;turn 1;go 2;turn 1;");
+        x = Check.withDay(LAND, "go 0;turn 1;go 2;turn 1;");
         Check.due("unlike at stop", x.after(0, 0, 4), 3);
         // a go to where he is moves him not; a crowd at an inn is none; the crowd at first counts
-        x = withDay("cross 0 1;cross;inn 1;walkers 0 2;", "turn 0;go 0;add 1;add 1;add 1;go 0;go 0;go 0;");
+        x = Check.withDay("cross 0 1;cross;inn 1;walkers 0 2;", "turn 0;go 0;add 1;add 1;add 1;go 0;go 0;go 0;");
         Check.due("stop", x.stop(0, 0), 8);
         Check.due("first", x.after(0, 0, 0), 5);
         Check.due("long", x.after(0, 0, 1), 0);
@@ -160,13 +154,13 @@ public final class DaysTest {
     }
 
     private static void afterNothing() {
-        TurnedPosts x = withDay("", "add 0;");
+        TurnedPosts x = Check.withDay("", "add 0;");
         Check.due("first", x.after(0, 0, 0), NONE);
         for (int what = 1; what < 5; what++) {
             Check.due("after " + what, x.after(0, 0, what), 0);
         }
         // one at an inn who runs comes to none; a run that never comes is long
-        x = withDay("cross;cross 1;inn 0;walkers 0 5;", "run 0;add 1;run 1;");
+        x = Check.withDay("cross;cross 1;inn 0;walkers 0 5;", "run 0;add 1;run 1;");
         Check.due("first", x.after(0, 0, 0), NONE);
         Check.due("long", x.after(0, 0, 1), 499);
         Check.due("moved", x.after(0, 0, 2), 0);

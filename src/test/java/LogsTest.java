@@ -16,14 +16,8 @@ public final class LogsTest {
         Check.done("LogsTest");
     }
 
-    private static TurnedPosts withLog(String land, String log) {
-        TurnedPosts x = Check.withLand(land);
-        Check.due("log " + log, Check.log(x, log), 0);
-        return x;
-    }
-
     private static void fitDue(String land, String log, int... numbers) {
-        TurnedPosts x = withLog(land, log);
+        TurnedPosts x = Check.withLog(land, log);
         Check.due("how many fit " + log, x.fits(0, 0, 0), numbers.length);
         for (int k = 0; k < numbers.length; k++) {
             Check.due("way " + k + " of " + log, x.fits(0, 0, 10 + k), numbers[k]);
@@ -40,19 +34,19 @@ public final class LogsTest {
         fitDue(LAND, "came 2 3;");
         fitDue(LAND, "never 2;");
         fitDue(LAND, "never 0;");
-        TurnedPosts x = withLog(LAND, "came 0 2;");
+        TurnedPosts x = Check.withLog(LAND, "came 0 2;");
         int[] sure = {NONE, NONE, 0, 0, NONE, NONE, NONE};
         for (int c = 0; c < 7; c++) {
             Check.due("sure " + c, x.fits(0, 0, 2 + c), sure[c]);
         }
-        x = withLog(LAND, "came 0 3;");
+        x = Check.withLog(LAND, "came 0 3;");
         int[] surely = {1, 0, 0, 0, NONE, NONE, NONE};
         for (int c = 0; c < 7; c++) {
             Check.due("surely " + c, x.fits(0, 0, 2 + c), surely[c]);
         }
         // the posts of inns are 0, however told
         fitDue("cross 1 1;cross 0 0;inn 1;post 1 1;", "came 0 1;", 100, 110);
-        Check.due("inn's post", withLog("cross 1 1;cross 0 0;inn 1;post 1 1;", "").fits(0, 0, 3), 0);
+        Check.due("inn's post", Check.withLog("cross 1 1;cross 0 0;inn 1;post 1 1;", "").fits(0, 0, 3), 0);
     }
 
     private static void fitsBehindEachOther() {
@@ -82,7 +76,7 @@ public final class LogsTest {
         fitDue(LAND, "came 0 6;");
         fitDue(LAND, "came 0 2;never 6;");
         fitDue("", "never 0;");
-        TurnedPosts x = withLog(LAND, "never 4;");
+        TurnedPosts x = Check.withLog(LAND, "never 4;");
         for (int what = 1; what < 9; what++) {
             Check.due("nothing fits " + what, x.fits(0, 0, what), NONE);
         }
@@ -94,24 +88,24 @@ public final class LogsTest {
     private static void noFacts() {
         fitDue("", "", 1);
         fitDue(LAND, "", 10000, 10100, 11000, 11100);
-        Check.due("least", withLog(LAND, "").least(0, 0, false), 0);
-        Check.due("most", withLog(LAND, "").least(0, 0, true), 0);
-        Check.due("ask of none", withLog("", "").fits(0, 0, 1), NONE);
-        Check.due("ask of inns", withLog("cross;inn 0;", "").fits(0, 0, 1), NONE);
-        Check.due("ask of an end", withLog("cross;inn 0;cross;", "").fits(0, 0, 1), 1);
-        Check.due("all fit", withLog("cross 0 0 0 0;cross 0 0 0 0;cross 0 0 0 0;cross 0 0 0 0;cross 0 0 0 0;"
+        Check.due("least", Check.withLog(LAND, "").least(0, 0, false), 0);
+        Check.due("most", Check.withLog(LAND, "").least(0, 0, true), 0);
+        Check.due("ask of none", Check.withLog("", "").fits(0, 0, 1), NONE);
+        Check.due("ask of inns", Check.withLog("cross;inn 0;", "").fits(0, 0, 1), NONE);
+        Check.due("ask of an end", Check.withLog("cross;inn 0;cross;", "").fits(0, 0, 1), 1);
+        Check.due("all fit", Check.withLog("cross 0 0 0 0;cross 0 0 0 0;cross 0 0 0 0;cross 0 0 0 0;cross 0 0 0 0;"
             + "cross 0 0 0 0;cross 0 0 0 0;", "never 6;").fits(0, 0, 10 + 16383), 13333333);
     }
 
     private static void ask() {
         // of 0 three of four come to 2; of 1 three of four to 3
-        Check.due("ask", withLog(LAND, "").fits(0, 0, 1), 0);
+        Check.due("ask", Check.withLog(LAND, "").fits(0, 0, 1), 0);
         // 0 tells nothing, 1 tells its post, 2 as well
-        Check.due("ask 1", withLog("cross 3;cross 3 4;cross 4 3;cross;cross;inn 3;inn 4;", "").fits(0, 0, 1), 1);
+        Check.due("ask 1", Check.withLog("cross 3;cross 3 4;cross 4 3;cross;cross;inn 3;inn 4;", "").fits(0, 0, 1), 1);
         // behind a fact that tells 1 already, 2 is to be asked
-        Check.due("ask 2", withLog("cross 3;cross 3 4;cross 4 3;cross;cross;inn 3;inn 4;", "came 1 4;").fits(0, 0, 1), 2);
+        Check.due("ask 2", Check.withLog("cross 3;cross 3 4;cross 4 3;cross;cross;inn 3;inn 4;", "came 1 4;").fits(0, 0, 1), 2);
         // places that are no inns count, too
-        Check.due("ask of ends", withLog("cross 2 3;cross 2 3 4;cross;cross;cross;", "").fits(0, 0, 1), 1);
+        Check.due("ask of ends", Check.withLog("cross 2 3;cross 2 3 4;cross;cross;cross;", "").fits(0, 0, 1), 1);
     }
 
     private static void oddsDue(TurnedPosts x, int c, int r, int over, int under) {
@@ -120,7 +114,7 @@ public final class LogsTest {
     }
 
     private static void odds() {
-        TurnedPosts x = withLog(LAND, "came 0 2;");
+        TurnedPosts x = Check.withLog(LAND, "came 0 2;");
         oddsDue(x, 0, 0, 2, 3);
         oddsDue(x, 0, 1, 1, 3);
         oddsDue(x, 1, 0, 1, 3);
@@ -129,29 +123,29 @@ public final class LogsTest {
         oddsDue(x, 0, -1, NONE, NONE);
         oddsDue(x, 2, 0, NONE, NONE);
         oddsDue(x, 4, 0, NONE, NONE);
-        x = withLog(LAND, "came 0 3;");
+        x = Check.withLog(LAND, "came 0 3;");
         oddsDue(x, 0, 0, 0, 1);
         oddsDue(x, 0, 1, 1, 1);
         // inns have no roads here
-        x = withLog("cross 1 1;cross 0 0;inn 1;", "");
+        x = Check.withLog("cross 1 1;cross 0 0;inn 1;", "");
         oddsDue(x, 0, 1, 1, 2);
         oddsDue(x, 1, 0, NONE, NONE);
     }
 
     private static void least() {
-        TurnedPosts x = withLog(LAND, "came 0 2;");
+        TurnedPosts x = Check.withLog(LAND, "came 0 2;");
         Check.due("least", x.least(0, 0, false), 1);
         Check.due("most", x.least(0, 0, true), 3);
-        x = withLog(LAND, "came 0 2;came 0 3;");
+        x = Check.withLog(LAND, "came 0 2;came 0 3;");
         Check.due("least", x.least(0, 0, false), 3);
         Check.due("most", x.least(0, 0, true), 5);
-        x = withLog("cross 0;cross 2;cross;", "never 0;never 1;never 2;");
+        x = Check.withLog("cross 0;cross 2;cross;", "never 0;never 1;never 2;");
         Check.due("never", x.least(0, 0, false), 500);
         Check.due("never", x.least(0, 0, true), 500);
     }
 
     private static void wrongInputs() {
-        TurnedPosts x = withLog(LAND, "came 0 2;");
+        TurnedPosts x = Check.withLog(LAND, "came 0 2;");
         for (int i : new int[] {-1, 1, 2, Integer.MAX_VALUE, Integer.MIN_VALUE}) {
             Check.due("fits " + i, x.fits(0, i, 0) + x.fits(i, 0, 0), -4);
             Check.due("odds " + i, x.odds(0, i, 0, 0, true) + x.odds(i, 0, 0, 0, false), -2);
