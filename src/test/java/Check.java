@@ -9,7 +9,7 @@ final class Check {
     private Check() {
     }
 
-    /** The sentence of the document that the answers from here on are asked for. */
+    /** The sentence of the document that the answers from here on are asked for; .. where words are left out. */
     static void sentence(String words) {
         sentence = words;
     }

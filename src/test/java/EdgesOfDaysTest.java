@@ -383,8 +383,8 @@ public final class EdgesOfDaysTest {
 
     private static void drawnUnsigned() {
         Check.sentence("x becomes x * 1103515245 + 12345 (of 32 bits), it is x shifted right by 16 without sign, remainder by n");
-        TurnedPosts x = Check.withLand("cross;cross;cross;");
         for (int from : new int[] {0, 1 << 30, Integer.MIN_VALUE, -50, 0x7fffff00}) {
+            TurnedPosts x = Check.withLand("cross;cross;cross;");
             int low = 0;
             int high = 0;
             for (int seed = from; seed - from < 200; seed++) {

@@ -125,7 +125,7 @@ public final class EdgesOfLogsTest {
         Check.sentence("the k-th, rising");
         TurnedPosts x = Check.withLog(FULL, "");
         int number = 0;
-        for (int k = 0; k < 16384; k++) {
+        for (int k = 0; k < 16384; k += 41) {
             int then = x.fits(0, 0, 10 + k);
             Check.due("rises at " + k, then > number, true);
             number = then;
@@ -289,7 +289,7 @@ public final class EdgesOfLogsTest {
         TurnedPosts noLand = new TurnedPosts();
         Check.due("log", Check.log(noLand, ""), 0);
         Check.due("no land", noLand.odds(0, 0, 0, 0, true), NONE);
-        Check.sentence("(INNS have no ROADS on here.)");
+        Check.sentence("INNS have no ROADS on here.");
         TurnedPosts inn = Check.withLog("cross 0 0;cross 0 0;inn 0;", "");
         oddsDue(inn, 0, 0, NONE, NONE);
         oddsDue(inn, 1, 0, 1, 2);
@@ -345,7 +345,7 @@ public final class EdgesOfLogsTest {
 
     /** What FITS is worked out anew for another LAND, another LOG, and for those told in place of one. */
     private static void fitOfTwo() {
-        Check.sentence("LANDS, at most 2, LOGS, at most 2");
+        Check.sentence("LANDS, at most 2 .. LOGS, at most 2");
         TurnedPosts x = Check.withLog(TWO, "came 0 1;");
         Check.due("second", Check.land(x, "cross 1 1 1 2;cross;cross;inn 1;inn 2;") + Check.log(x, "came 0 2;"), 2);
         int[][] due = {{1, 1}, {3, 1}};

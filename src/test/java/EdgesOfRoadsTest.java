@@ -90,7 +90,7 @@ public final class EdgesOfRoadsTest {
     }
 
     private static void nearest() {
-        Check.sentence("NEAREST of a CROSSING: the INN to which it is least FAR (none: none)");
+        Check.sentence("NEAREST of a CROSSING: the INN to which it is least FAR .. (none: none)");
         TurnedPosts x = Check.withLand(ROW + "inn 6;inn 3;");
         Check.dues("in a row", c -> x.reach(0, c, 1), 0, 3, 3, 3, 3, 6, 6, 6);
         TurnedPosts none = Check.withLand(ROW);
@@ -239,7 +239,7 @@ public final class EdgesOfRoadsTest {
     }
 
     private static void led() {
-        Check.sentence("LED from a CROSSING, the way POSTS point, nothing turning: how many STEPS to an INN or an END; where that is");
+        Check.sentence("LED from a CROSSING, the way POSTS point, nothing turning: how many STEPS to an INN or an END .. where that is");
         ledDue("cross;", 0, 0, 0, 0);
         ledDue("cross;inn 0;", 0, 0, 0, 0);
         ledDue("cross 0;inn 0;", 0, 0, 0, 0);

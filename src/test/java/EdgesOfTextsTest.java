@@ -37,6 +37,7 @@ public final class EdgesOfTextsTest {
         ofALandAlone();
         howManyTexts();
         newObject();
+        fiveHundredTwelveCalls();
         feed();
         end();
         text();
@@ -96,7 +97,7 @@ public final class EdgesOfTextsTest {
 
     /** What an earlier text told, one with a FAULT as well, is not in a later one. */
     private static void eachBeginsAnew() {
-        Check.sentence("(0 at first), (none at first)");
+        Check.sentence("(0 at first .. (none at first)");
         String full = "cross 0 1 1 1;cross 1 0 0 0;post 0 3;post 1 2;inn 0;inn 1;walkers 0 9;walkers 1 8;";
         String[] befores = {full, full + "!"};
         for (String before : befores) {
@@ -560,6 +561,21 @@ public final class EdgesOfTextsTest {
         Check.due("place", x.fault(1), NONE);
     }
 
+    private static void fiveHundredTwelveCalls() {
+        Check.sentence("An object is used for at most 512 calls after it has been made");
+        TurnedPosts x = new TurnedPosts();
+        int calls = 0;
+        for (int round = 0; round < 128; round++) {
+            int n = round % 7 + 1;
+            Check.due("feed", x.feed(0x63726f73, 0x73202020, 0x3b202020, 0x20202020, 0x20202020), 20);
+            Check.due("text", x.text(0, round == 0 ? NONE : 0), 0);
+            Check.due("image", n < 4 ? x.image(n - 1) : x.again(round % 3), true);
+            Check.due("call", round == 127 ? x.trees(0) : x.walk(0, 0, 10), 1);
+            calls += 4;
+        }
+        Check.due("calls", calls, 512);
+    }
+
     private static void feed() {
         Check.sentence("twenty bytes come behind it, of each number the highest first: how many it has");
         TurnedPosts x = new TurnedPosts();
@@ -692,7 +708,7 @@ public final class EdgesOfTextsTest {
         }
         int[][] first = {{2, 2}, {}, {3, 1}, {2, 0}, {0, 7}};
         int[][] leads = {{1, 0, 1}, {1}};
-        for (int what = -300; what < 400; what++) {
+        for (int what = -100; what < 300; what++) {
             int c = what % 10;
             int due = NONE;
             if (what >= 0 && what < 2) {

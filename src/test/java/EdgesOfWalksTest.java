@@ -95,7 +95,7 @@ public final class EdgesOfWalksTest {
     // ---- END ----
 
     private static void end() {
-        Check.sentence("END: all WALKERS as told go, each by a WALK: how many are at a CROSSING in the end; how many STEPS in all; "
+        Check.sentence("END: all WALKERS as told go, each by a WALK .. how many are at a CROSSING in the end; how many STEPS in all; "
             + "where a POST points then");
         TurnedPosts none = Check.withLand("cross 0 0;post 0 1;");
         Check.due("no walkers", none.endOf(0, 0), 0);
@@ -277,7 +277,7 @@ public final class EdgesOfWalksTest {
     }
 
     private static void coverBy499() {
-        Check.sentence("the number of the STEP by which he has been at all CROSSINGS of its REACH first (none: never)");
+        Check.sentence("the number of the STEP by which he has been at all CROSSINGS of its REACH first .. none: never)");
         TurnedPosts x = Check.withLand("cross 0 0 1;cross 1 1 0 2;cross 0 3;cross 0 0 4;cross 4 1 1 5;cross 4 4 0 6;"
             + "cross 6 2 0 1;post 1 1;post 2 1;post 3 1;post 6 1;");
         Check.due("by the 499th", x.cover(0, 0, 0), 499);
@@ -319,7 +319,7 @@ public final class EdgesOfWalksTest {
     }
 
     private static void round() {
-        Check.sentence("ROUND, of one who has gone 499 STEPS to no INN (else none): the fewest STEPS more behind which he is "
+        Check.sentence("ROUND, of one who has gone 499 STEPS to no INN (else none): the fewest STEPS more .. behind which he is "
             + "where he was then, all POSTS pointing as then");
         Check.due("by 499 to the inn", Check.withLand(FAR).cover(0, 0, 3), NONE);
         Check.due("by 500 to the inn", Check.withLand(FAR).cover(0, 6, 3), NONE);
@@ -334,7 +334,7 @@ public final class EdgesOfWalksTest {
     }
 
     private static void roundUpTo999() {
-        Check.sentence("999 at most (by none of these: none)");
+        Check.sentence("999 at most .. (by none of these: none)");
         TurnedPosts x = Check.withLand("cross 4 3;cross 2 2 1 1;cross 3 3 1 5;cross 1 2 0;cross 5 5 3;cross 4 2 4 6;cross 6 0 5;");
         Check.due("999", x.cover(0, 0, 3), 999);
         TurnedPosts y = Check.withLand("cross 0 5 4 0;cross 2 3 6 0;cross 5;cross 2 4 6 1;cross 4 5 3 4;cross 0 4;cross 6 5 6 0;");

@@ -50,7 +50,7 @@ public final class EdgesOfWaysTest {
     }
 
     private static void setFewest() {
-        Check.sentence("SET of a CROSSING, an INN: the fewest POSTS to be set anew so that a WALKER put there comes to that INN: how many");
+        Check.sentence("SET of a CROSSING, an INN: the fewest POSTS to be set anew .. so that a WALKER put there comes to that INN: how many");
         setDue("cross 1 2;cross;cross;inn 1;inn 2;", 0, 2, 0, 0, 0, 0, 0, NONE);
         setDue("cross 1 2;cross;cross;inn 1;inn 2;", 0, 1, 1, 1, 1, 0, 0, NONE);
         setDue("cross 1 2;cross;cross;inn 1;inn 2;", 1, 1, 0, 0, 0, 0, 0, NONE);
@@ -413,7 +413,7 @@ public final class EdgesOfWaysTest {
     }
 
     private static void back() {
-        Check.sentence("BACK of a CROSSING: by how many ways to set POSTS a WALK of it leaves the POSTS as told.");
+        Check.sentence("BACK of a CROSSING: by how many ways to set POSTS a WALK of it leaves the POSTS .. as told.");
         // 00 becomes 10, 01 11, 10 01, 11 10
         backDue(LAND, 0, 0);
         backDue(LAND + "post 0 1;", 0, 2);
@@ -453,7 +453,7 @@ public final class EdgesOfWaysTest {
 
     /** Seven CROSSINGS of four ROADS each: 16384 ways. The numbers are those of Slow. */
     private static void allWaysThereMayBe() {
-        Check.sentence("CROSSINGS, at most 7; ROADS of each, at most 4");
+        Check.sentence("CROSSINGS, at most 7 .. ROADS of each, at most 4");
         String land = "cross 0 1 2 3;cross 4 5 6 0;cross 1 2 3 4;cross 5 6 0 1;cross 2 3 4 5;cross 6 6 5 3;cross 0 4 0 2;"
             + "post 0 3;post 1 1;post 3 2;post 4 3;post 5 1;post 6 2;";
         TurnedPosts x = Check.withLog(land, "never 3;");
