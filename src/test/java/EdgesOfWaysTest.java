@@ -107,6 +107,8 @@ public final class EdgesOfWaysTest {
         setDue("cross 1;cross;cross;inn 1;inn 2;", 0, 2, NONE, NONE, NONE, NONE, NONE);
         setDue("cross;cross;inn 0;inn 1;", 0, 1, NONE, NONE, NONE, NONE);
         setDue("cross 0 1;cross;inn 1;", 0, 1, 0, 0, 0, 0);
+        setDue("cross;cross 1 1;inn 0;", 1, 0, NONE, NONE, NONE, NONE);
+        setDue("cross;cross 1 0;inn 0;", 1, 0, 0, 0, 0, 0);
     }
 
     private static void setRefused() {
