@@ -4,7 +4,13 @@ import java.util.Random;
 
 /** Compares the class with Slow on lands, days and logs made by chance (by fixed seeds). */
 public final class AgainstSlowTest {
+    private static final int MOST_CALLS = 512;
+
     private static Random random;
+    private static final List<String> texts = new ArrayList<>();
+    private static final List<Integer> sorts = new ArrayList<>();
+    private static TurnedPosts told;
+    private static int calls;
 
     public static void main(String[] args) {
         int rounds = args.length > 0 ? Integer.parseInt(args[0]) : 400;
@@ -81,45 +87,84 @@ public final class AgainstSlowTest {
         return log;
     }
 
+    /** The object to be asked so many times more: a new one, told the same, if it would be more than it is good for. */
+    private static TurnedPosts forCalls(int more) {
+        if (told == null || calls + more > MOST_CALLS) {
+            tellAnew();
+        }
+        calls += more;
+        return told;
+    }
+
+    private static void tellAnew() {
+        told = new TurnedPosts();
+        calls = 0;
+        int[] howMany = new int[3];
+        for (int i = 0; i < texts.size(); i++) {
+            int sort = sorts.get(i);
+            String text = texts.get(i);
+            Check.due("text " + text, Check.text(told, sort, TurnedPosts.NONE, text), howMany[sort]);
+            howMany[sort]++;
+            calls += text.length() / 20 + 3;
+        }
+    }
+
+    private static void toBeTold(int sort, String text) {
+        sorts.add(sort);
+        texts.add(text);
+    }
+
+    private static String textOf(List<Slow.Deed> day) {
+        StringBuilder text = new StringBuilder();
+        for (Slow.Deed deed : day) {
+            text.append(deed.text());
+        }
+        return text.toString();
+    }
+
+    private static String textOfLog(List<int[]> log) {
+        StringBuilder text = new StringBuilder();
+        for (int[] fact : log) {
+            text.append(fact[1] == Slow.NONE ? "never " + fact[0] + ";" : "came " + fact[0] + " " + fact[1] + ";");
+        }
+        return text.toString();
+    }
+
     private static void compare(int round) {
         Slow.Land[] lands = {someLand(), someLand()};
-        TurnedPosts x = new TurnedPosts();
         List<List<Slow.Deed>> days = new ArrayList<>();
         List<List<int[]>> logs = new ArrayList<>();
+        told = null;
+        texts.clear();
+        sorts.clear();
         for (int i = 0; i < 2; i++) {
-            Check.due("land " + lands[i].text(), Check.land(x, lands[i].text()), i);
             days.add(someDay(lands[i]));
             logs.add(someLog(lands[i]));
-            StringBuilder day = new StringBuilder();
-            for (Slow.Deed deed : days.get(i)) {
-                day.append(deed.text());
-            }
-            Check.due("day " + day, Check.day(x, day.toString()), i);
-            StringBuilder log = new StringBuilder();
-            for (int[] fact : logs.get(i)) {
-                log.append(fact[1] == Slow.NONE ? "never " + fact[0] + ";" : "came " + fact[0] + " " + fact[1] + ";");
-            }
-            Check.due("log " + log, Check.log(x, log.toString()), i);
+            toBeTold(0, lands[i].text());
+            toBeTold(1, textOf(days.get(i)));
+            toBeTold(2, textOfLog(logs.get(i)));
         }
         for (int i = 0; i < 2; i++) {
             String run = "round " + round + ", land " + lands[i].text() + " ";
-            compareWalks(x, i, lands[i], run);
-            compareWays(x, i, lands[i], run);
-            compareRoads(x, i, lands[i], run);
-            compareDrawn(x, i, lands[i], run);
+            compareWalks(i, lands[i], run);
+            compareWays(i, lands[i], run);
+            compareRoads(i, lands[i], run);
+            compareDrawn(i, lands[i], run);
             for (int j = 0; j < 2; j++) {
-                compareDay(x, i, j, lands[i], days.get(j), run);
-                compareLog(x, i, j, lands[i], logs.get(j), run);
+                compareDay(i, j, lands[i], days.get(j), run);
+                compareLog(i, j, lands[i], logs.get(j), run);
             }
         }
     }
 
-    private static void compareWalks(TurnedPosts x, int i, Slow.Land land, String run) {
+    private static void compareWalks(int i, Slow.Land land, String run) {
+        TurnedPosts x = forCalls(31);
         for (int what = -1; what < 30; what++) {
             Check.due(run + "endOf " + what, x.endOf(i, what), Slow.endOf(land, what));
         }
         for (int c = -1; c <= 7; c++) {
             String at = run + "crossing " + c + " ";
+            x = forCalls(99);
             for (int what = -1; what < 19; what++) {
                 Check.due(at + "walk " + what, x.walk(i, c, what), Slow.walk(land, c, what));
             }
@@ -142,10 +187,11 @@ public final class AgainstSlowTest {
         }
     }
 
-    private static void compareWays(TurnedPosts x, int i, Slow.Land land, String run) {
-        Check.due(run + "trees", x.trees(i), Slow.trees(land));
+    private static void compareWays(int i, Slow.Land land, String run) {
+        Check.due(run + "trees", forCalls(1).trees(i), Slow.trees(land));
         for (int c = -1; c <= 7; c++) {
             String at = run + "crossing " + c + " ";
+            TurnedPosts x = forCalls(170);
             for (int inn = -1; inn <= 7; inn++) {
                 for (int what : new int[] {-1, 0, 1, 2, 9, 10, 11, 12, 13, 14, 15, 16, 17}) {
                     Check.due(at + "set " + inn + " " + what, x.set(i, c, inn, what), Slow.set(land, c, inn, what));
@@ -167,7 +213,8 @@ public final class AgainstSlowTest {
         }
     }
 
-    private static void compareRoads(TurnedPosts x, int i, Slow.Land land, String run) {
+    private static void compareRoads(int i, Slow.Land land, String run) {
+        TurnedPosts x = forCalls(127);
         for (int what = -1; what < 9; what++) {
             Check.due(run + "classes " + what, x.classes(i, what), Slow.classes(land, what));
         }
@@ -181,9 +228,10 @@ public final class AgainstSlowTest {
         }
     }
 
-    private static void compareDrawn(TurnedPosts x, int i, Slow.Land land, String run) {
+    private static void compareDrawn(int i, Slow.Land land, String run) {
         for (int n : new int[] {-1, 0, 1, 5, 30, 59, 60, 61}) {
             int seed = random.nextInt();
+            TurnedPosts x = forCalls(41);
             for (int what = -1; what < 40; what++) {
                 Check.due(run + "drawn " + seed + " " + n + " " + what, x.drawn(i, seed, n, what),
                     Slow.drawn(land, seed, n, what));
@@ -191,20 +239,23 @@ public final class AgainstSlowTest {
         }
     }
 
-    private static void compareDay(TurnedPosts x, int i, int j, Slow.Land land, List<Slow.Deed> day, String run) {
+    private static void compareDay(int i, int j, Slow.Land land, List<Slow.Deed> day, String run) {
+        TurnedPosts x = forCalls(8);
         Check.due(run + "stop", x.stop(i, j), Slow.stop(land, day));
+        for (int what = -1; what < 6; what++) {
+            Check.due(run + "after " + what, x.after(i, j, what), Slow.after(land, day, what));
+        }
         for (int n = -1; n <= day.size() + 1; n += 1 + random.nextInt(4)) {
+            x = forCalls(41);
             for (int what = -1; what < 40; what++) {
                 Check.due(run + "state " + n + " " + what, x.state(i, j, n, what), Slow.state(land, day, n, what));
             }
         }
-        for (int what = -1; what < 6; what++) {
-            Check.due(run + "after " + what, x.after(i, j, what), Slow.after(land, day, what));
-        }
     }
 
-    private static void compareLog(TurnedPosts x, int i, int j, Slow.Land land, List<int[]> log, String run) {
+    private static void compareLog(int i, int j, Slow.Land land, List<int[]> log, String run) {
         String by = run + "log " + j + " ";
+        TurnedPosts x = forCalls(220);
         List<int[][]> fitting = Slow.fitting(land, log);
         for (int what = -1; what < 12; what++) {
             Check.due(by + "fits " + what, x.fits(i, j, what),
